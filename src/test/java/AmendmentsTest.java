@@ -144,14 +144,18 @@ public final class AmendmentsTest {
         Check.due("the last one counts", "w4 w4", Check.textOn(x, act, 0, 0, 0));
         Check.due("of the tongue in which it was moved", "w2", Check.textOn(x, act, 0, 1, 0));
         Check.due("and anew", "w5", Check.textOn(x, act, 0, 2, 0));
+        int third = Check.move(x, act, 0, 2, "w6");
+        Check.due("the tongue 0 lacks", 1, Check.supply(x, third, 1, "w6"));
+        x.supply(third, 0);
+        x.vote(third, 0, 0);
         Check.move(x, act, 0, 0, "");
-        Check.supply(x, 1, 1, "");
+        Check.supply(x, 2, 1, "");
         x.tongue();
-        Check.due("where it is not in force it lacks none", 0, Check.supply(x, 1, 2, ""));
+        Check.due("where it is not in force it lacks none", 0, Check.supply(x, 2, 2, ""));
         Check.translate(x, act, 0, 3, "");
         x.publish(act, 3);
-        Check.due("where it came into force later it does", 1, Check.supply(x, 1, 2, ""));
-        Check.due("till it is supplied", 0, Check.supply(x, 1, 3, ""));
+        Check.due("where it came into force later it does", 1, Check.supply(x, 2, 2, ""));
+        Check.due("till it is supplied", 0, Check.supply(x, 2, 3, ""));
     }
 
     private static void promise32Faults() {

@@ -132,6 +132,8 @@ public final class ChecksTest {
         Check.due("another act defines nothing of it", 2, x.undefined(act));
         Check.fails(x, "no act", IOOBE, () -> x.undefined(2));
         Check.fails(x, "act -1", IOOBE, () -> x.undefined(-1));
+        Check.write(x, other, 0, 1, "t0");
+        Check.due("the concept 0 is not defined in it", 1, x.undefined(other));
         Equaltexts y = Check.office(1, 1);
         Check.frozen(y, "w1");
         y.tongue();

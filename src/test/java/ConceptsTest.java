@@ -51,6 +51,12 @@ public final class ConceptsTest {
             Check.due("no form is allowed", false, x.allow(15, 1, form, false));
         }
         Check.due("all situations", 4095, x.mean(15, 1, 4095));
+        x.allow(15, 1, 5, true);
+        Check.due("the last form of the last one", true, x.allow(15, 1, 5, true));
+        x.alias(15, 1, 5, 4);
+        Check.due("counts as another one", 4, x.alias(15, 1, 5, 5));
+        x.mean(15, 1, 2);
+        Check.due("means something else", 2, x.mean(15, 1, 4095));
         int late = x.tongue();
         Check.due("all situations, in a tongue that joined later", 4095, x.mean(0, late, 1));
         Check.due("no form there", false, x.allow(0, late, 0, true));
@@ -68,6 +74,8 @@ public final class ConceptsTest {
         x.alias(1, 1, 3, 2);
         x.allow(1, 1, 2, true);
         Check.due("what a form counts as is not asked", false, x.allow(1, 1, 3, true));
+        x.allow(0, 0, 0, true);
+        Check.due("the lowest of all", true, x.allow(0, 0, 0, true));
         Check.fails(x, "concept -1", IOOBE, () -> x.allow(-1, 0, 0, true));
         Check.fails(x, "concept 2", IOOBE, () -> x.allow(2, 0, 0, true));
         Check.fails(x, "tongue -1", IOOBE, () -> x.allow(0, -1, 0, true));
@@ -84,6 +92,10 @@ public final class ConceptsTest {
         Check.due("another concept as itself", 3, x.alias(0, 1, 3, 3));
         Check.due("counts as 5", 5, x.alias(1, 1, 3, 3));
         Check.due("that is ended", 3, x.alias(1, 1, 3, 3));
+        Check.due("the lowest as the highest", 0, x.alias(0, 0, 0, 5));
+        Check.due("the highest as the lowest", 5, x.alias(0, 0, 5, 0));
+        Check.due("the lowest counted as the highest", 5, x.alias(0, 0, 0, 0));
+        Check.due("the highest counted as the lowest", 0, x.alias(0, 0, 5, 5));
         Check.fails(x, "concept 2", IOOBE, () -> x.alias(2, 0, 0, 0));
         Check.fails(x, "concept -1", IOOBE, () -> x.alias(-1, 0, 0, 0));
         Check.fails(x, "tongue 2", IOOBE, () -> x.alias(0, 2, 9, 0));
@@ -100,6 +112,7 @@ public final class ConceptsTest {
         Check.due("none before", 0, x.mean(1, 1, 4095));
         Check.due("another tongue", 4095, x.mean(1, 0, 7));
         Check.due("another concept", 4095, x.mean(0, 1, 7));
+        Check.due("the one before", 7, x.mean(0, 1, 8));
         Check.fails(x, "concept 2", IOOBE, () -> x.mean(2, 0, 0));
         Check.fails(x, "concept -1", IOOBE, () -> x.mean(-1, 0, 0));
         Check.fails(x, "tongue 2", IOOBE, () -> x.mean(0, 2, -1));

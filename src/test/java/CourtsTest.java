@@ -135,6 +135,8 @@ public final class CourtsTest {
         Check.due("of several the lowest tongue", 6, found(court(4, 7, 6, 12), 'p'));
         Check.due("what the purpose has is as much as what it has not", 2, found(court(3, 2, 1, 7), 'p'));
         Check.due("the purpose itself", 9, found(court(9, 1, 8, 9, 9), 'p'));
+        Check.due("all twelve differ", 4095, found(court(0, 4095), 'p'));
+        Check.due("none but all twelve", 4095, found(court(0, 4095), 'b'));
         Check.due("the fewest situations", 8, found(court(4095, 7, 8, 4), 'b'));
         Check.due("none are the fewest", 0, found(court(4095, 1, 0, 2), 'b'));
         Check.due("likewise the lowest tongue", 5, found(court(3, 7, 5, 3), 'b'));

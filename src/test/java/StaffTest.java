@@ -256,6 +256,14 @@ public final class StaffTest {
         Check.fails(y, "unlike pivots", NSEE, () -> y.days(0, 0, 1));
         y.translator(0b0110, 99);
         Check.due("one pivot", 2, y.days(0, 0, 1));
+        Equaltexts z = Check.office(3, 0);
+        Check.draft(z, "", "w1 w2 w3");
+        z.translator(0b100, 1);
+        Check.fails(z, "the tongue 1 is not known", NSEE, () -> z.days(0, 1, 2));
+        z.translator(0b101, 2);
+        Check.fails(z, "nor into the pivot 0", NSEE, () -> z.days(0, 1, 2));
+        z.translator(0b011, 1);
+        Check.due("through the pivot 0", 5, z.days(0, 1, 2));
     }
 
     private static void workFaults(Equaltexts x, Check.Call drafted, Check.Call[] outOfBounds, Check.Call same) {

@@ -1,3 +1,5 @@
+import java.math.BigInteger;
+
 /** Promises 53 to 60: letters and figures. */
 public final class FiguresTest {
     private static final Class<IllegalStateException> ISE = IllegalStateException.class;
@@ -11,6 +13,7 @@ public final class FiguresTest {
         promise56();
         promise57();
         promise57Order();
+        promise57Wraps();
         promise58();
         promise59();
         promise60();
@@ -53,6 +56,15 @@ public final class FiguresTest {
         Check.fails(x, "no translator", IOOBE, () -> x.answer(3));
         Check.fails(x, "translator -1", IOOBE, () -> x.answer(-1));
         Check.due("one waits still", 2, x.letter(0));
+        Equaltexts late = Check.office(1, 0);
+        late.translator(1, 1);
+        late.letter(0);
+        while (late.day() < 9999) {
+            late.pass(Math.min(365, 9999 - late.day()));
+        }
+        Check.due("overdue by far", 1, late.overdue());
+        Check.due("all the days that there are", 9999, late.answer(0));
+        Check.due("none waits any more", 0, late.overdue());
     }
 
     private static void promise55() {
@@ -140,6 +152,37 @@ public final class FiguresTest {
         Check.due("a special edition, by units", sum(sum(sum, 3, "n1 w15"), 3, "w14"), x.checksum());
     }
 
+    /** The sum without an end to its numbers, of which the checksum keeps the last 64 bits. */
+    private static BigInteger exact(BigInteger before, int day, String text) {
+        BigInteger by = BigInteger.valueOf(31);
+        BigInteger sum = before.multiply(by).add(BigInteger.valueOf(day));
+        for (String token : text.split(" ")) {
+            int value = Integer.parseInt(token.substring(1));
+            sum = sum.multiply(by).add(BigInteger.valueOf(token.charAt(0) + 7L * value));
+        }
+        return sum;
+    }
+
+    private static void promise57Wraps() {
+        Equaltexts x = Check.office(1, 0);
+        x.pass(365);
+        BigInteger sum = exact(BigInteger.ZERO, 365, "n9999");
+        Check.frozen(x, "n9999");
+        int within = 1;
+        boolean isNegative = false;
+        for (int i = 0; i < 12; i++) {
+            String text = i == 11 ? "n9999 n9999 n9999 n9999 n9999 n9999 n9999 n9999 n9999 n9999" : "n9999";
+            Check.move(x, 0, 0, 0, text);
+            x.vote(i, 1, 0);
+            sum = exact(sum, 365, text);
+            Check.due("the sum of " + (i + 2) + " versions", sum.longValue(), x.checksum());
+            within += sum.bitLength() < 64 ? 1 : 0;
+            isNegative |= x.checksum() < 0;
+        }
+        Check.due("so many were within a long", 5, within);
+        Check.due("some that wrapped around were below 0", true, isNegative);
+    }
+
     private static void promise58() {
         Equaltexts x = Check.office(1, 0);
         Check.fails(x, "there are none", ArithmeticException.class, x::frozenShare);
@@ -170,6 +213,12 @@ public final class FiguresTest {
         Check.due("of all versions, 13 of 6", 13.0 / 6.0, x.meanTokens());
         Check.frozen(x, "", "", "");
         Check.due("13 of 9", 13.0 / 9.0, x.meanTokens());
+        Equaltexts none = Check.office(1, 0);
+        Check.frozen(none, "");
+        Check.due("none at all", 0.0, none.meanTokens());
+        Equaltexts most = Check.office(1, 0);
+        Check.frozen(most, "w1 w2 w3 w4 w5 w6 w7 w8 w9 x");
+        Check.due("the most", 10.0, most.meanTokens());
     }
 
     private static void promise60() {

@@ -1017,7 +1017,7 @@ public final class Equaltexts {
             int found = ALL_SITUATIONS;
             for (int i = 0; i < tokens.length; i++) {
                 int concept = conceptOf(valueAt(i));
-                if (kindAt(i) == 't' && concept < meanings.length) {
+                if (kindAt(i) == 't' && concept >= 0 && concept < meanings.length) {
                     found &= kindAt(i - 1) == 'x' ? ~meanings[concept] : meanings[concept];
                 }
             }
@@ -1440,7 +1440,8 @@ public final class Equaltexts {
         }
 
         void hear(int tongue, Text text, int[] ofConcepts) {
-            if (tongue >= 0 && tongue < texts.length && ofConcepts.length == MOST_CONCEPTS) {
+            if (tongue >= 0 && tongue < texts.length && tongue < meanings.length
+                    && ofConcepts.length == MOST_CONCEPTS) {
                 texts[tongue] = text;
                 System.arraycopy(ofConcepts, 0, meanings[tongue], 0, MOST_CONCEPTS);
             }
@@ -1467,7 +1468,7 @@ public final class Equaltexts {
                 int often = 0;
                 for (int t = 0; t < texts.length; t++) {
                     if (texts[t] != null) {
-                        often += texts[t].situations(meanings[t]) >> s & 1;
+                        often += meantIn(t) >> s & 1;
                     }
                 }
                 common |= often >= least ? 1 << s : 0;
@@ -1475,12 +1476,20 @@ public final class Equaltexts {
             return common;
         }
 
+        /** What the text that was heard in a tongue meant then; without a text, and without terms, all. */
+        private int meantIn(int tongue) {
+            if (tongue < 0 || tongue >= texts.length || tongue >= meanings.length || texts[tongue] == null) {
+                return ALL_SITUATIONS;
+            }
+            return texts[tongue].situations(meanings[tongue]);
+        }
+
         private int nearestTo(int aim) {
             int nearest = 0;
             int least = SITUATIONS + 1;
             for (int t = 0; t < texts.length; t++) {
                 if (texts[t] != null) {
-                    int meant = texts[t].situations(meanings[t]);
+                    int meant = meantIn(t);
                     int differing = Integer.bitCount(meant ^ aim);
                     if (differing < least) {
                         nearest = meant;
